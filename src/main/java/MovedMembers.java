@@ -144,7 +144,7 @@ public final class MovedMembers {
         if (what < 0 || what > 1) {
             return OUTSIDE;
         }
-        int home = tree.answerer(type, method);
+        int home = tree.nearest(type, method);
         return what == 1 || home == NONE ? home : tree.heldBy(home, method);
     }
 
@@ -669,14 +669,17 @@ public final class MovedMembers {
             return bits;
         }
 
-        /** The class in which the body lies by which a class answers a method. */
-        int answerer(int type, int method) {
-            if (method < 0 || method >= METHODS) {
+        /**
+         * The nearest class, it itself first, that has a member, not hidden: by a method's body there a class
+         * answers it; and as no field is ever hidden, a field's slot there is the one that is used.
+         */
+        int nearest(int type, int member) {
+            if (member < 0 || member >= MEMBERS) {
                 return NONE;
             }
             int at = type;
             for (int level = 0; level < MOST_TYPES && at >= 0 && at < types && at < MOST_TYPES; level++) {
-                if (held[at * MEMBERS + method] != NONE && (hiddenBits[at] >> method & 1) == 0) {
+                if (held[at * MEMBERS + member] != NONE && (hiddenBits[at] >> member & 1) == 0) {
                     return at;
                 }
                 at = parents[at];
@@ -687,26 +690,11 @@ public final class MovedMembers {
         int answerBits(int type) {
             int bits = 0;
             for (int method = 0; method < METHODS; method++) {
-                if (answerer(type, method) != NONE) {
+                if (nearest(type, method) != NONE) {
                     bits |= 1 << method;
                 }
             }
             return bits;
-        }
-
-        /** The slot that a body in a class uses for a field. */
-        int slotFor(int type, int field) {
-            if (field < 0 || field >= MEMBERS) {
-                return NONE;
-            }
-            int at = type;
-            for (int level = 0; level < MOST_TYPES && at >= 0 && at < types && at < MOST_TYPES; level++) {
-                if (held[at * MEMBERS + field] != NONE) {
-                    return held[at * MEMBERS + field];
-                }
-                at = parents[at];
-            }
-            return NONE;
         }
 
         int itemCountOf(int body) {
@@ -800,7 +788,7 @@ public final class MovedMembers {
             openBits = 0L;
             size = NONE;
             deepest = NONE;
-            int home = tree.answerer(type, method);
+            int home = tree.nearest(type, method);
             if (home == NONE) {
                 return;
             }
@@ -837,13 +825,13 @@ public final class MovedMembers {
         private int homeFor(int type, int item) {
             int home = openHome();
             if (item >= ASK) {
-                return tree.answerer(tree.parentOf(home), item - ASK);
+                return tree.nearest(tree.parentOf(home), item - ASK);
             }
-            return tree.hides(home, item) ? home : tree.answerer(type, item);
+            return tree.hides(home, item) ? home : tree.nearest(type, item);
         }
 
         private void use(int field) {
-            int slot = tree.slotFor(openHome(), field);
+            int slot = tree.heldBy(tree.nearest(openHome(), field), field);
             note(slot == NONE ? MISSING : USED, slot == NONE ? field : slot);
         }
 
