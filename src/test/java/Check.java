@@ -1,3 +1,6 @@
+import java.math.BigInteger;
+import java.util.function.IntSupplier;
+
 /** Counts answers that are not the ones that are due, and tells the machine so at the end. */
 final class Check {
     static final int NONE = -1;
@@ -7,6 +10,7 @@ final class Check {
     static final int FULL = -1004;
 
     private final String name;
+    private String sentence = "";
     private int asked = 0;
     private int wrong = 0;
 
@@ -14,11 +18,16 @@ final class Check {
         this.name = name;
     }
 
+    /** Names the promise and the document's own words that the checks from here on hold to. */
+    void about(int promise, String words) {
+        sentence = promise + " '" + words + "': ";
+    }
+
     void due(String call, long got, long want) {
         asked++;
         if (got != want) {
             wrong++;
-            System.out.println(name + ": " + call + " answered " + got + ", due is " + want);
+            System.out.println(name + ": " + sentence + call + " answered " + got + ", due is " + want);
         }
     }
 
@@ -32,6 +41,13 @@ final class Check {
         for (int i = 0; i < Math.min(got.length, want.length); i++) {
             due(calls + " [" + i + "]", got[i], want[i]);
         }
+    }
+
+    /** A call that is refused: its answer, and that nothing which can be seen is another one behind it. */
+    void refused(MovedMembers x, String call, IntSupplier asks, int want) {
+        long before = x.digest();
+        due(call, asks.getAsInt(), want);
+        due(call + " changes nothing", x.digest(), before);
     }
 
     void end() {
@@ -88,6 +104,23 @@ final class Check {
             row[2 * event + 1] = x.event(type, method, event, 1);
         }
         return row;
+    }
+
+    static long[] counts(MovedMembers x) {
+        long[] row = new long[9];
+        for (int what = 0; what < 9; what++) {
+            row[what] = x.count(what);
+        }
+        return row;
+    }
+
+    /** The digest of these numbers, reckoned without a bound and cut to a long at the end alone. */
+    static long digestOf(long... numbers) {
+        BigInteger h = BigInteger.valueOf(1663);
+        for (long number : numbers) {
+            h = h.multiply(BigInteger.valueOf(31)).add(BigInteger.valueOf(number));
+        }
+        return h.longValue();
     }
 
     /** All that can be seen of an object, but for how many moves were done and undone ever. */
