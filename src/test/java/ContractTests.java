@@ -112,23 +112,29 @@ public final class ContractTests {
     }
 
     private static void digest() {
-        MovedMembers x = new MovedMembers();
-        digestIsAsTold("of a new object", x, "");
-        Check.tell(x, "A:a(bbbbbb)b(cccccc)c(uuuuuu)");
-        digestIsAsTold("of one class", x, "");
-        Check.tell(x, "B<A:b-(^b)uw");
-        Check.tell(x, "C<B:d(wx)");
-        digestIsAsTold("of three classes", x, "");
-        x.contract(9);
-        x.contract(63);
-        x.hollow(0, true);
-        x.move(1, 8, true);
-        Check.page(x, "D<A:~ ");
+        digestIsAsTold("of a new object", new MovedMembers(), "");
+        digestIsAsTold("of one class", Check.told("A:a(bbbbbb)b(cccccc)c(uuuuuu)"), "");
+        digestIsAsTold("of three classes", forDigest(), "");
+        MovedMembers x = withAll();
         digestIsAsTold("of all", x, "D<A:~ ");
         long before = x.digest();
         CHECK.due("24: it changes nothing", x.digest(), before);
         x.letter('a');
         CHECK.holds("24: a letter more", x.digest() != before);
+    }
+
+    private static MovedMembers forDigest() {
+        return Check.told("A:a(bb)b(cc)c(u)", "B<A:b-(^b)uw", "C<B:d(wx)");
+    }
+
+    private static MovedMembers withAll() {
+        MovedMembers x = forDigest();
+        x.contract(9);
+        x.contract(63);
+        x.hollow(0, true);
+        x.move(1, 8, true);
+        Check.page(x, "D<A:~ ");
+        return x;
     }
 
     private static void digestIsAsTold(String what, MovedMembers x, String page) {
@@ -143,9 +149,10 @@ public final class ContractTests {
             for (int method = 0; method <= 5; method++) {
                 h = 31 * h + x.answer(type, method, 0);
                 h = 31 * h + x.answer(type, method, 1);
-                h = 31 * h + x.trace(type, method, 0);
+                int events = x.trace(type, method, 0);
+                h = 31 * h + events;
                 h = 31 * h + x.trace(type, method, 1);
-                for (int n = 0; n < x.trace(type, method, 0); n++) {
+                for (int n = 0; n < events; n++) {
                     h = 31 * h + x.event(type, method, n, 0);
                     h = 31 * h + x.event(type, method, n, 1);
                 }

@@ -24,6 +24,7 @@ public final class FoundEdgeTests {
         theLastOfSixty();
         theFirstBehindSixty();
         atOnceAtMost();
+        fortyAtOnce();
         traceRefuses();
         eventRefuses();
         CHECK.end();
@@ -271,6 +272,18 @@ public final class FoundEdgeTests {
             in.event(0, 0, 59, 1)}, 60, 4, RUN, 5);
         MovedMembers out = Check.told("A:a(bccd)b(cccccc)c(uuuuuu)d(e)e(f)f");
         CHECK.row("the 61st does not", new long[] {out.trace(0, 0, 0), out.trace(0, 0, 1), out.event(0, 0, 59, 1)}, 60, 3, 4);
+    }
+
+    /** All forty bodies open at once: hidden ones and asks lead through every class. */
+    private static void fortyAtOnce() {
+        CHECK.about(12, "1 how many BODIES run at once at most");
+        MovedMembers x = Check.told("A:a(b)b(c)c(d)d(e)e(f)f(x)x", "B<A:a(b)b-(c)c-(d)d-(e)e-(f)f-(^a)",
+            "C<B:a(b)b-(c)c-(d)d-(e)e-(f)f-(^a)", "D<C:a(b)b-(c)c-(d)d-(e)e-(f)f-(^a)",
+            "E<D:a(b)b-(c)c-(d)d-(e)e-(f)f-(^a)", "F<E:a(b)b-(c)c-(d)d-(e)e-(f)f-(^a)",
+            "G<F:a(bx)b-(c)c-(d)d-(^a)");
+        CHECK.row("forty at once", new long[] {x.trace(6, 0, 0), x.trace(6, 0, 1)}, 42, 40);
+        CHECK.row("its end", new long[] {x.event(6, 0, 39, 1), x.event(6, 0, 40, 0), x.event(6, 0, 40, 1),
+            x.event(6, 0, 41, 0), x.event(6, 0, 41, 1)}, 5, 2, 9, 2, 9);
     }
 
     private static void traceRefuses() {

@@ -14,7 +14,6 @@ public final class FoundTests {
         rounds();
         roundsOfOneBodyInTwoClasses();
         cutAtSixty();
-        deepest();
         CHECK.end();
     }
 
@@ -193,16 +192,5 @@ public final class FoundTests {
             behind.trace(0, 3, 1)}, 60, 3, 3);
         behind.hollow(0, true);
         CHECK.due("22: all of an abstract class is dead", behind.count(7), 6);
-    }
-
-    /** All forty bodies open at once: hidden ones and asks lead through every class. */
-    private static void deepest() {
-        MovedMembers x = Check.told("A:a(b)b(c)c(d)d(e)e(f)f(x)x", "B<A:a(b)b-(c)c-(d)d-(e)e-(f)f-(^a)",
-            "C<B:a(b)b-(c)c-(d)d-(e)e-(f)f-(^a)", "D<C:a(b)b-(c)c-(d)d-(e)e-(f)f-(^a)",
-            "E<D:a(b)b-(c)c-(d)d-(e)e-(f)f-(^a)", "F<E:a(b)b-(c)c-(d)d-(e)e-(f)f-(^a)",
-            "G<F:a(bx)b-(c)c-(d)d-(^a)");
-        CHECK.row("12: forty at once", new long[] {x.trace(6, 0, 0), x.trace(6, 0, 1)}, 42, 40);
-        CHECK.row("13: its end", new long[] {x.event(6, 0, 39, 1), x.event(6, 0, 40, 0), x.event(6, 0, 40, 1),
-            x.event(6, 0, 41, 0), x.event(6, 0, 41, 1)}, 5, 2, 9, 2, 9);
     }
 }

@@ -29,12 +29,12 @@ public final class ModelTests {
         for (int run = 0; run < RUNS; run++) {
             ModelTests one = new ModelTests(run);
             one.play();
-            reached[0] += one.x.count(5);
-            reached[1] += one.x.count(6);
-            reached[2] += one.x.count(1) == 8 ? 1 : 0;
-            reached[3] += one.x.count(2) > 34 ? 1 : 0;
-            reached[4] += one.x.count(7) > 0 ? 1 : 0;
-            reached[5] += one.x.count(8) > 0 ? 1 : 0;
+            reached[0] += one.model.count(5);
+            reached[1] += one.model.count(6);
+            reached[2] += one.model.count(1) == 8 ? 1 : 0;
+            reached[3] += one.model.count(2) > 34 ? 1 : 0;
+            reached[4] += one.model.count(7) > 0 ? 1 : 0;
+            reached[5] += one.model.count(8) > 0 ? 1 : 0;
         }
         for (int n = 0; n < reached.length; n++) {
             CHECK.holds("the runs reach what they are for, " + n, reached[n] >= 5);
@@ -73,7 +73,7 @@ public final class ModelTests {
         } else if (kind < 5) {
             due("drop()", x.drop(), model.drop());
         } else if (kind < 9) {
-            int type = number(x.count(1));
+            int type = number(model.count(1));
             boolean is = random.nextBoolean();
             due("hollow(" + type + ", " + is + ")", x.hollow(type, is), model.hollow(type, is));
         } else if (kind < 50) {
@@ -90,9 +90,9 @@ public final class ModelTests {
     }
 
     private void moveSomething() {
-        int type = number(x.count(1));
+        int type = number(model.count(1));
         int member = number(12);
-        for (int n = 0; n < 8 && x.has(type, member) == MovedMembers.NONE; n++) {
+        for (int n = 0; n < 8 && model.has(type, member) == MovedMembers.NONE; n++) {
             member = number(12);
         }
         boolean up = random.nextBoolean();
@@ -105,13 +105,13 @@ public final class ModelTests {
     }
 
     private void find() {
-        int type = number(x.count(1));
+        int type = number(model.count(1));
         int member = number(12);
         int method = number(6);
         int what = number(8);
         int few = number(2);
         int event = number(chance(50) ? 5 : 60);
-        int body = number(x.count(2));
+        int body = number(model.count(2));
         int place = chance(70) ? 10 + random.nextInt(6) : number(20);
         String tail = "(" + type + ", " + method + ", " + few + ")";
         switch (random.nextInt(6)) {
@@ -128,9 +128,9 @@ public final class ModelTests {
     private void ask() {
         int what = number(9);
         int few = number(3);
-        int body = number(x.count(2));
-        int contract = number(x.count(4));
-        int types = chance(90) ? random.nextInt(1 << x.count(1)) : number(300);
+        int body = number(model.count(2));
+        int contract = number(model.count(4));
+        int types = chance(90) ? random.nextInt(1 << model.count(1)) : number(300);
         int methods = number(64);
         switch (random.nextInt(6)) {
             case 0 -> due("moves(" + few + ")", x.moves(few), model.moves(few));
@@ -146,7 +146,7 @@ public final class ModelTests {
         if (calls + text.length() + 3 > MOST_CALLS) {
             return;
         }
-        if (x.count(0) > 0 && chance(80)) {
+        if (model.count(0) > 0 && chance(80)) {
             due("blank()", x.blank(), model.blank());
         }
         for (char letter : text.toCharArray()) {
@@ -158,7 +158,7 @@ public final class ModelTests {
 
     /** Few letters make many classes that share them, and so moves that meet. */
     private String soundText() {
-        int types = x.count(1);
+        int types = model.count(1);
         StringBuilder text = new StringBuilder().append((char) ('A' + types));
         if (types > 0 && chance(85)) {
             text.append('<').append((char) ('A' + random.nextInt(types)));

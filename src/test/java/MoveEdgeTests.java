@@ -382,6 +382,10 @@ public final class MoveEdgeTests {
         CHECK.row("behind each change", new long[] {both.hollow(0, true), both.moves(0), both.moves(1), both.moves(2), both.move(1, 1, UP),
             both.moves(0), both.moves(1), both.moves(2), both.undo(), both.moves(0), both.moves(1), both.moves(2)},
             0, 1, 1, 3, 1, 0, 2, 2, 0, 1, 1, 3);
+        CHECK.row("behind two at once", new long[] {both.moves(0), both.move(1, 1, UP), both.hollow(0, true), both.moves(0), both.moves(1),
+            both.moves(2)}, 1, 1, 1, 0, 2, 2);
+        CHECK.row("behind an undo and another", new long[] {both.move(0, 1, DOWN), both.moves(1), both.undo(), both.hollow(0, true),
+            both.moves(0), both.moves(1), both.moves(2)}, 1, 1, 0, 1, 0, 2, 2);
         MovedMembers full = withTwentyKept();
         CHECK.about(18, "could be done: WHY is 0");
         CHECK.row("with twenty kept", new long[] {full.moves(0), full.moves(1), full.moves(2)}, 0, 1, 0);

@@ -1,3 +1,6 @@
+import java.util.ArrayList;
+import java.util.List;
+
 /** Promises 14 to 18: which moves can be, why others cannot, done and undone. */
 public final class MoveTests {
     private static final Check CHECK = new Check("MoveTests");
@@ -160,24 +163,46 @@ public final class MoveTests {
         CHECK.due("16: room again", y.move(1, 6, true), 20);
     }
 
+    private static MovedMembers forUndo() {
+        return Check.told("A:", "B<A:a-(u)uv", "C<B:b(v)wu", "D<A:w");
+    }
+
+    private static boolean moveByNumber(MovedMembers x, int n) {
+        return x.move(n % 4, n / 4 % 12, n / 48 % 2 == 0) > 0;
+    }
+
+    private static MovedMembers withMoves(List<Integer> numbers) {
+        MovedMembers x = forUndo();
+        for (int n : numbers) {
+            moveByNumber(x, n);
+        }
+        return x;
+    }
+
+    /** Objects are made anew for each step, as to look at all of one takes many of its 512 calls. */
     private static void undo() {
-        MovedMembers x = Check.told("A:", "B<A:a-(u)uv", "C<B:b(v)wu", "D<A:w");
+        MovedMembers x = forUndo();
         CHECK.due("17: nothing to undo", x.undo(), Check.STATE);
-        String[] seen = new String[40];
-        int kept = 0;
-        for (int n = 0; n < 400 && kept < 20; n++) {
-            seen[kept] = Check.seen(x);
-            int answer = x.move(n % 4, n / 4 % 12, n / 48 % 2 == 0);
-            kept = answer > 0 ? answer : kept;
+        List<Integer> numbers = new ArrayList<>();
+        for (int n = 0; n < 400 && numbers.size() < 20; n++) {
+            if (moveByNumber(x, n)) {
+                numbers.add(n);
+            }
         }
-        int done = kept;
+        int done = numbers.size();
         CHECK.holds("17: some were done", done > 3);
-        while (kept > 0) {
-            kept--;
-            CHECK.due("17: undo", x.undo(), kept);
-            CHECK.holds("17: as it was with " + kept, seen[kept].equals(Check.seen(x)));
+        for (int left = done - 1; left >= 0; left--) {
+            MovedMembers back = withMoves(numbers);
+            for (int kept = done - 1; kept >= left; kept--) {
+                CHECK.due("17: undo", back.undo(), kept);
+            }
+            CHECK.holds("17: as it was with " + left, Check.seen(withMoves(numbers.subList(0, left))).equals(Check.seen(back)));
         }
-        CHECK.row("17: no more", new long[] {x.undo(), x.count(3), x.count(5), x.count(6)}, Check.STATE, 0, done, done);
+        MovedMembers none = withMoves(numbers);
+        for (int n = 0; n < done; n++) {
+            none.undo();
+        }
+        CHECK.row("17: no more", new long[] {none.undo(), none.count(3), none.count(5), none.count(6)}, Check.STATE, 0, done, done);
     }
 
     private static MovedMembers withOneKept() {
