@@ -76,7 +76,7 @@ public final class ContractEdgeTests {
     }
 
     private static void lacksFewest() {
-        CHECK.about(20, "of those that do not the one that lacks fewest (of like ones the least)");
+        CHECK.about(20, "of those that do not the one that lacks fewest (of like ones the least;");
         MovedMembers x = Check.told("A:", "B:a", "C:ab", "D:bc", "E:abc", "F:");
         CHECK.row("contracts", new long[] {x.contract(7), x.contract(63), x.contract(32), x.contract(6)}, 0, 1, 2, 3);
         CHECK.row("one of like ones", new long[] {x.fit(0, 2), x.fit(0, 1)}, 2, 16);
@@ -173,7 +173,7 @@ public final class ContractEdgeTests {
     }
 
     private static void countOfEach() {
-        CHECK.about(23, "0 letters, 1 CLASSES, 2 BODIES, 3 MOVES kept, 4 CONTRACTS, 5 done ever, 6 undone ever, 7 DEAD, 8 MISSING");
+        CHECK.about(23, "How many: 0 letters of THE PAGE, 1 CLASSES, 2 BODIES, 3 MOVES that are kept, 4 CONTRACTS");
         MovedMembers x = new MovedMembers();
         CHECK.row("none of any", Check.counts(x), 0, 0, 0, 0, 0, 0, 0, 0, 0);
         Check.tell(x, "A:a(bu)u");
@@ -254,7 +254,7 @@ public final class ContractEdgeTests {
 
     /** Every refusal at once on an object that is full of all: none of them changes what can be seen. */
     private static void refusalsOfAFullObject() {
-        CHECK.about(24, "Refusals change nothing");
+        CHECK.about(24, "they change nothing");
         MovedMembers x = Check.told("A:abcdef", "B<A:abcdef", "C:abcdef", "D:abcdef", "E:abcdef", "F:abcdef", "G:abcd", "H<A:u");
         for (int n = 0; n < 6; n++) {
             x.contract(63);

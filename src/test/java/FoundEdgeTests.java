@@ -38,7 +38,7 @@ public final class FoundEdgeTests {
         CHECK.row("seven, none", new long[] {x.of(0, 6), x.of(1, 6), x.of(7, 6)}, 254, 0, 0);
         MovedMembers chain = Check.told("A:", "B<A:", "C<B:", "D<C:");
         CHECK.row("right below alone", new long[] {chain.of(0, 6), chain.of(1, 6), chain.of(2, 6), chain.of(3, 6)}, 2, 4, 8, 0);
-        CHECK.about(8, "2 which METHODS it has, 3 which of these are HIDDEN, 4 which FIELDS, as bits (1 for 'u')");
+        CHECK.about(8, "2 which METHODS it has, as bits, 3 which of these are HIDDEN, 4 which FIELDS, as bits (1 for 'u')");
         MovedMembers ends = Check.told("A:a-fuz", "B<A:", "C:b-c-");
         CHECK.row("the first and the last", Check.of(ends, 0), -1, 0, 33, 1, 33, 32, 2);
         CHECK.row("what lies above is not had", Check.of(ends, 1), 0, 0, 0, 0, 0, 32, 0);
@@ -87,7 +87,7 @@ public final class FoundEdgeTests {
         CHECK.row("not from below, not from the side", answers(x, 1, 0, 3, 4), -1, -1, -1, -1, 2, 4);
         MovedMembers first = Check.told("A:ab", "B<A:");
         CHECK.row("a body that has not the number of its class", answers(first, 1, 0, 1), 1, 0, 1, 0);
-        CHECK.about(10, "if it, or one above it, has it, not HIDDEN");
+        CHECK.about(10, "(its PARENT, the PARENT of that, and so on), has it, not HIDDEN");
         MovedMembers hidden = Check.told("A:f", "B<A:f-", "C<B:f-", "D<C:", "E:f-", "F<E:");
         CHECK.row("hidden ones are passed over", answers(hidden, 5, 1, 2, 3), 0, 0, 0, 0, 0, 0);
         CHECK.row("all are hidden", answers(hidden, 5, 4, 5), -1, -1, -1, -1);
@@ -119,7 +119,7 @@ public final class FoundEdgeTests {
     }
 
     private static void body() {
-        CHECK.about(11, "10 to 15 the ITEM of that place: the number of its MEMBER, 20 more for an ASK (NONE: it has not so many)");
+        CHECK.about(11, "the number of its MEMBER, 20 more for an ASK (NONE: it has not so many)");
         MovedMembers x = Check.told("A:a(afuz^a^f)b-c(z)", "B:f(bbbbb)");
         CHECK.row("six", items(x, 0), 6, 0, 5, 6, 11, 20, 25);
         CHECK.row("none", items(x, 1), 0, -1, -1, -1, -1, -1, -1);
@@ -179,7 +179,7 @@ public final class FoundEdgeTests {
         runs(Check.told("A:b", "B<A:b-", "C<B:a(^b)"), 2, 0, RUN, 2, RUN, 0);
         runs(Check.told("A:b-", "B<A:a(^b)b"), 1, 0, RUN, 1, MISSING, 1);
         runs(Check.told("A:b", "B<A:a(^b)b-"), 1, 0, RUN, 1, RUN, 0);
-        CHECK.about(13, "by the place: D is the CLASS where the BODY was found");
+        CHECK.about(13, "that BODY runs, in the CLASS where it was found");
         runs(Check.told("A:b", "B<A:a(^b)b", "C<B:"), 2, 0, RUN, 1, RUN, 0);
         runs(Check.told("A:f", "B<A:f(^f)", "C<B:", "D<C:f(^f)"), 3, 5, RUN, 2, RUN, 1, RUN, 0);
     }
@@ -204,7 +204,7 @@ public final class FoundEdgeTests {
         runs(Check.told("A:a(b)b(c)c(ab)"), 0, 0, RUN, 0, RUN, 1, RUN, 2, ROUND, 0, ROUND, 1);
         runs(Check.told("A:a(bb)b(c)c"), 0, 0, RUN, 0, RUN, 1, RUN, 2, RUN, 1, RUN, 2);
         runs(Check.told("A:a(bc)b(c)c(b)"), 0, 0, RUN, 0, RUN, 1, RUN, 2, ROUND, 1, RUN, 2, RUN, 1, ROUND, 2);
-        CHECK.about(13, "a BODY can be in several CLASSES");
+        CHECK.about(13, "(A BODY, a SLOT can be in several CLASSES by that.)");
         MovedMembers x = Check.told("A:a(^au)", "B<A:u", "C<A:", "D<B:");
         for (int type = 0; type < 4; type++) {
             x.hollow(type, true);
@@ -229,7 +229,7 @@ public final class FoundEdgeTests {
         MovedMembers own = Check.told("A:a(bbbbbb)b(cccccc)c(uuuuuu)d(ca)");
         CHECK.row("each TRACE by itself", new long[] {own.trace(0, 0, 0), own.trace(0, 1, 0), own.trace(0, 2, 0),
             own.trace(0, 3, 0)}, 60, 43, 7, 60);
-        CHECK.about(13, "UNKNOWN: event");
+        CHECK.about(13, "UNKNOWN: type, method, event");
         MovedMembers x = behindFiftyEight("vwx", "");
         CHECK.row("the last ones", new long[] {x.event(0, 0, 58, 0), x.event(0, 0, 58, 1), x.event(0, 0, 59, 0),
             x.event(0, 0, 59, 1)}, MISSING, 7, MISSING, 8);

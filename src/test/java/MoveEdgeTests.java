@@ -98,7 +98,7 @@ public final class MoveEdgeTests {
     }
 
     private static void notAnsweredBehind() {
-        CHECK.about(14, "4 it does not ANSWER it behind it");
+        CHECK.about(14, "it does not ANSWER it behind it");
         MovedMembers x = Check.told("A:f", "B<A:");
         whyAndWhere(x, 0, 5, DOWN, 4, 5);
         x.hollow(0, true);
@@ -111,7 +111,7 @@ public final class MoveEdgeTests {
     }
 
     private static void anotherTrace() {
-        CHECK.about(14, "4 or TRACE is another one");
+        CHECK.about(14, "or TRACE is another one");
         whyAndWhere(Check.told("A:", "B<A:a(u)u"), 1, 0, UP, 4, 6);
         whyAndWhere(Check.told("A:b(u)u", "B<A:"), 0, 6, DOWN, 4, 1);
         whyAndWhere(Check.told("A:u", "B<A:u", "C<B:c(u)"), 1, 6, DOWN, 0, Check.NONE);
@@ -119,7 +119,7 @@ public final class MoveEdgeTests {
         whyAndWhere(Check.told("A:", "B<A:a(b)b-"), 1, 1, UP, 4, 6);
         whyAndWhere(Check.told("A:c(b)", "B<A:b-", "C<A:b"), 1, 1, UP, 4, 2);
         whyAndWhere(Check.told("A:", "B<A:a", "C<A:c(^a)"), 1, 0, UP, 4, 14);
-        CHECK.about(14, "TRACE: also its first EVENT alone, also its last alone, where there are as many");
+        // Another in one event alone, the first or the last, where there are as many.
         whyAndWhere(Check.told("A:a", "B<A:", "C<B:a", "D<B:"), 2, 0, UP, 4, 6);
         whyAndWhere(Check.told("A:u", "B<A:", "C<B:a(u)u"), 2, 6, UP, 0, Check.NONE);
         whyAndWhere(Check.told("A:a(bu)b", "B<A:u"), 1, 6, UP, 4, 0);
@@ -195,7 +195,7 @@ public final class MoveEdgeTests {
     }
 
     private static void upFromTheSame() {
-        CHECK.about(16, "the CLASS and all others right below that PARENT that have it with the same SLOT, have it no longer");
+        CHECK.about(16, "or the same SLOT, have it no longer");
         MovedMembers x = Check.told("A:u", "B<A:", "C<A:u", "D<A:");
         CHECK.row("to all that have none", new long[] {x.move(0, 6, DOWN), x.moves(0)}, 1, 3);
         CHECK.row("slots", having(x, 6), -1, 6, 30, 6);
@@ -203,7 +203,7 @@ public final class MoveEdgeTests {
         CHECK.row("from both", having(x, 6), 6, -1, 30, -1);
         CHECK.row("undone, the other one", new long[] {x.undo(), x.move(2, 6, UP)}, 1, 2);
         CHECK.row("from none beside it", having(x, 6), 30, 6, -1, 6);
-        CHECK.about(16, "the CLASS and all others right below that PARENT that have it with the same BODY, have it no longer");
+        CHECK.about(16, "and the CLASS and all others right below that PARENT that have it with the same BODY");
         MovedMembers y = Check.told("A:a", "B<A:", "C<A:a", "D<A:");
         y.hollow(0, true);
         CHECK.row("from one of two", new long[] {y.move(0, 0, DOWN), y.move(1, 0, UP)}, 1, 2);
@@ -232,7 +232,7 @@ public final class MoveEdgeTests {
     }
 
     private static void hiddenAlike() {
-        CHECK.about(16, "its PARENT has it then (with its BODY, HIDDEN or not)");
+        CHECK.about(16, "its PARENT has it then (with its BODY, HIDDEN or not, or its SLOT)");
         MovedMembers x = Check.told("A:", "B<A:a-b");
         CHECK.row("up", new long[] {x.move(1, 0, UP), x.move(1, 1, UP), x.of(0, 2), x.of(0, 3), x.of(1, 2), x.of(1, 3)},
             1, 2, 3, 1, 0, 0);
@@ -315,14 +315,14 @@ public final class MoveEdgeTests {
     }
 
     private static void aClassComes() {
-        CHECK.about(17, "a CLASS that comes ends that: none is kept then");
+        CHECK.about(17, "a CLASS that comes, goes");
         MovedMembers x = withOneKept();
         CHECK.due("comes", Check.tell(x, "D:"), 3);
         noneIsKept(x);
     }
 
     private static void aClassGoes() {
-        CHECK.about(17, "a CLASS that goes ends that: none is kept then");
+        CHECK.about(17, "a CLASS that comes, goes");
         MovedMembers x = withOneKept();
         CHECK.due("goes", x.drop(), 2);
         noneIsKept(x);
@@ -347,7 +347,7 @@ public final class MoveEdgeTests {
     }
 
     private static void whatDoesNotEndIt() {
-        CHECK.about(17, "Refusals change nothing.");
+        CHECK.about(17, "they change nothing");
         MovedMembers x = withOneKept();
         CHECK.refused(x, "no class", x::type, Check.STATE);
         CHECK.refused(x, "no such class", () -> x.hollow(3, true), Check.UNKNOWN);
@@ -387,7 +387,7 @@ public final class MoveEdgeTests {
         CHECK.row("behind an undo and another", new long[] {both.move(0, 1, DOWN), both.moves(1), both.undo(), both.hollow(0, true),
             both.moves(0), both.moves(1), both.moves(2)}, 1, 1, 0, 1, 0, 2, 2);
         MovedMembers full = withTwentyKept();
-        CHECK.about(18, "could be done: WHY is 0");
+        CHECK.about(18, "How many MOVES could be done");
         CHECK.row("with twenty kept", new long[] {full.moves(0), full.moves(1), full.moves(2)}, 0, 1, 0);
         CHECK.about(18, "OUTSIDE.");
         for (int odd : new int[] {-1, 3, Integer.MIN_VALUE, Integer.MAX_VALUE}) {

@@ -130,7 +130,7 @@ public final class TextEdgeTests {
     }
 
     private static void faultOfMembers() {
-        CHECK.about(4, "METHODS are 'a' to 'f', FIELDS 'u' to 'z'");
+        CHECK.about(4, "METHODS are 'a' to 'f' (numbers 0 to 5), FIELDS 'u' to 'z' (6 to 11)");
         goesOn(new String[0], "A:", METHODS + FIELDS);
         goesOn(new String[] {"A:"}, "B<A:", METHODS + FIELDS);
         CHECK.about(4, "its MEMBERS, one behind the other, none twice");
@@ -138,7 +138,7 @@ public final class TextEdgeTests {
         goesOn(new String[0], "A:fz", "abcdeuvwxy");
         goesOn(new String[0], "A:abcdefuvwxyz", "");
         goesOn(new String[0], "A:uvwxyzabcde-", "(f");
-        CHECK.about(4, "its letter, perhaps '-', perhaps '('");
+        CHECK.about(4, "a METHOD: its letter, perhaps '-' (it is HIDDEN), perhaps '('");
         goesOn(new String[0], "A:a", "-(bcdef" + FIELDS);
         goesOn(new String[0], "A:a-", "(bcdef" + FIELDS);
         goesOn(new String[0], "A:a(b)", "bcdef" + FIELDS);
@@ -250,7 +250,7 @@ public final class TextEdgeTests {
     }
 
     private static void typeFortyBodies() {
-        CHECK.about(5, "FULL: there would be more than 40 BODIES");
+        CHECK.about(5, "or there would be more than 40 BODIES");
         MovedMembers x = Check.told("A:abcdef", "B:abcdef", "C:abcdef", "D:abcdef", "E:abcdef", "F:abcdef");
         Check.page(x, "G:abcde");
         CHECK.refused(x, "41", x::type, Check.FULL);
@@ -262,7 +262,7 @@ public final class TextEdgeTests {
         CHECK.about(5, "Refusals, of several the first as told by each call");
         Check.page(x, "H:a-a");
         CHECK.refused(x, "none, and one more", x::type, Check.STATE);
-        CHECK.about(5, "Each METHOD told has a BODY of its own (40 at most in all)");
+        CHECK.about(5, "Each METHOD told has a BODY of its own");
         CHECK.row("fields have none", new long[] {Check.tell(x, "H<G:uvwxyz"), x.count(2), x.has(7, 11)}, 7, 40, 95);
         MovedMembers y = withForty();
         CHECK.row("room behind a drop", new long[] {y.drop(), y.count(2), Check.tell(y, "G:abcde"), Check.tell(y, "G:efab"),
@@ -308,7 +308,7 @@ public final class TextEdgeTests {
     }
 
     private static void dropTakesTheLast() {
-        CHECK.about(6, "The last CLASS is gone: how many are left.");
+        CHECK.about(6, "how many are left");
         MovedMembers x = Check.told("A:a", "B<A:b-(a)v", "C<A:c");
         x.contract(4);
         Check.page(x, "~");
